@@ -1,5 +1,6 @@
 import java.io.IOException;
 import java.lang.management.ManagementFactory;
+import java.lang.reflect.Array;
 import java.lang.reflect.Constructor;
 import java.lang.reflect.Field;
 import java.lang.reflect.Method;
@@ -8,8 +9,10 @@ import java.nio.file.Files;
 import java.nio.file.Path;
 import java.util.ArrayList;
 import java.util.Collections;
+import java.util.HashMap;
 import java.util.HashSet;
 import java.util.List;
+import java.util.Map;
 import java.util.Set;
 import java.util.regex.Matcher;
 import java.util.regex.Pattern;
@@ -34,6 +37,10 @@ public final class FaceTest {
         rest();
         nestedClasses();
         source();
+        library();
+        loops();
+        depthOfCalls();
+        room();
         nothingIsMade();
         Due.end();
     }
@@ -117,9 +124,13 @@ public final class FaceTest {
         }
     }
 
+    private static String code() throws IOException {
+        return Files.readString(Path.of(SOURCE)).replaceAll("(?s)/\\*.*?\\*/", "").replaceAll("//[^\n]*", "");
+    }
+
     private static void source() throws IOException {
         String text = Files.readString(Path.of(SOURCE));
-        String code = text.replaceAll("(?s)/\\*.*?\\*/", "").replaceAll("//[^\n]*", "");
+        String code = code();
         String[] words = {"throw", "throws", "try", "catch", "synchronized", "assert", "import", "package", "instanceof",
             "equals", "hashCode", "toString", "Exact", "var", "record", "protected", "double", "float"};
         for (String word : words) {
@@ -135,6 +146,84 @@ public final class FaceTest {
             String before = code.substring(code.lastIndexOf('\n', made.start()) + 1, made.start());
             holds("made once, for a field: " + made.group(), before.matches("\\s+\\w+ = "));
         }
+    }
+
+    private static void library() throws IOException {
+        Matcher call = Pattern.compile("\\b([A-Z]\\w*)\\.([a-z]\\w*)\\(").matcher(code());
+        while (call.find()) {
+            boolean numbers = call.group(1).matches("Integer|Long|Math") && !call.group(2).endsWith("Exact");
+            boolean rows = call.group().matches("System\\.arraycopy\\(|Arrays\\.(copyOf|copyOfRange|fill)\\(");
+            holds("rule 4: " + call.group(), numbers || rows);
+        }
+    }
+
+    private static void loops() throws IOException {
+        String code = code();
+        holds("rule 9: a loop without a counter", !Pattern.compile("\\b(while|do)\\b").matcher(code).find());
+        Matcher loop = Pattern.compile("\\bfor \\((.*)\\) \\{").matcher(code);
+        int seen = 0;
+        while (loop.find()) {
+            seen++;
+            holds("rule 9: " + loop.group(), loop.group(1).matches("int (\\w+) = \\w+; \\1 <=? [^;]+; \\1\\+\\+")
+                || loop.group(1).matches("int (\\w+) = \\w+; [^;|]+ && \\1 <=? [^;|]+; \\1\\+\\+"));
+        }
+        holds("loops seen: " + seen, seen > 30);
+    }
+
+    /** By names alone, so a bit too strict: methods of one name in two classes count as one. */
+    private static void depthOfCalls() throws IOException {
+        Map<String, Set<String>> calls = new HashMap<>();
+        Matcher m = Pattern.compile("(?m)^(    |        )(?:[\\w\\[\\]]+ )*(\\w+)\\([^;=\\n]*\\) \\{\\n((?s:.*?))^\\1\\}").matcher(code());
+        while (m.find()) {
+            if (!m.group(2).matches("if|for|switch")) {
+                Set<String> called = calls.computeIfAbsent(m.group(2), k -> new HashSet<>());
+                Matcher call = Pattern.compile("\\b(\\w+)\\(").matcher(m.group(3));
+                while (call.find()) {
+                    called.add(call.group(1));
+                }
+            }
+        }
+        holds("methods seen: " + calls.size(), calls.size() > 80);
+        for (String name : calls.keySet()) {
+            int depth = depthOf(calls, name, 0);
+            holds("rules 8 and 11: depth " + depth + " of " + name, depth <= 8);
+        }
+    }
+
+    private static int depthOf(Map<String, Set<String>> calls, String name, int open) {
+        if (open > 20 || !calls.containsKey(name)) {
+            return 0;
+        }
+        int deepest = 0;
+        for (String called : calls.get(name)) {
+            deepest = Math.max(deepest, depthOf(calls, called, open + 1));
+        }
+        return deepest + 1;
+    }
+
+    /** All calls of a run live in one room, so an object must be small: objects, fields and elements are counted. */
+    private static void room() throws Exception {
+        List<Object> open = new ArrayList<>(List.of(new UnsaidCalls()));
+        int numbers = 0;
+        for (int k = 0; k < open.size(); k++) {
+            Object one = open.get(k);
+            if (one.getClass().isArray()) {
+                numbers += Array.getLength(one);
+                continue;
+            }
+            for (Field f : one.getClass().getDeclaredFields()) {
+                if (!Modifier.isStatic(f.getModifiers())) {
+                    numbers++;
+                    f.setAccessible(true);
+                    Object held = f.getType().isPrimitive() ? null : f.get(one);
+                    if (held != null && open.stream().noneMatch(o -> o == held)) {
+                        open.add(held);
+                    }
+                }
+            }
+        }
+        holds("objects and arrays of one: " + open.size(), open.size() <= 40);
+        holds("fields and elements of one: " + numbers, numbers <= 2500);
     }
 
     /** A method begins with a line of 4 or 8 blanks that ends with an open brace, and ends where a like one closes it. */

@@ -208,10 +208,11 @@ public final class OracleTest {
         if (want >= 0 && (promise == 23 || promise == 24)) {
             lanes[a[0]] = promise == 23 ? a[1] : -1;
         }
-        Due.due("run " + run + ": " + NAMES[promise] + Arrays.toString(a), got, want);
+        String call = "promise " + promise + ", run " + run + ": " + NAMES[promise] + Arrays.toString(a);
+        Due.due(call, got, want);
         boolean refusal = want == Long.MIN_VALUE || promise != 4 && promise != 10 && want < 0;
         (refusal ? refused : answered)[promise]++;
-        Due.due("run " + run + ": fault behind " + NAMES[promise] + Arrays.toString(a), x.fault(), oracle.call(32, 0, 0, 0, 0, 0));
+        Due.due("promise 32, fault() behind " + call, x.fault(), oracle.call(32, 0, 0, 0, 0, 0));
     }
 
     private static long answerOf(UnsaidCalls x, int promise, int[] a) {

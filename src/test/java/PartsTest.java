@@ -1,110 +1,141 @@
 /** Promises 13 to 15: PARTS, the BEST LIST, WORDS in the mean. */
-public final class PartsTest {
-    private static final int UNKNOWN = -1, OUTSIDE = -2, STATE = -3;
-    private static final long LOST = Long.MIN_VALUE;
-
+public final class PartsTest extends Sentences {
     public static void main(String[] args) {
-        withoutTown();
+        new PartsTest().run();
+    }
+
+    @Override
+    void all() {
         parts();
+        partsOfSixHours();
         best();
-        bestOfAll();
+        bestBehindOthers();
+        leastOfSeveral();
         words();
-        Due.end();
     }
 
-    private static void due(String call, long got, long want) {
-        Due.due(call, got, want);
+    private static void partsDue(UnsaidCalls x, int... parts) {
+        for (int n = 0; n <= 6; n++) {
+            due(x, "parts(" + n + ")", parts[n]);
+        }
     }
 
-    private static void withoutTown() {
-        UnsaidCalls x = new UnsaidCalls();
-        due("parts(0)", x.parts(0), STATE);
-        due("parts(7)", x.parts(7), OUTSIDE);
-        due("best(0, 0)", x.best(0, 0), STATE);
-        due("best(0, 2)", x.best(0, 2), OUTSIDE);
-        due("best(6, 2)", x.best(6, 2), UNKNOWN);
-        due("words(0, 0)", x.words(0, 0), LOST);
-    }
-
-    /** CASES 0, 1, 2, 3, 5, 7. */
     private static void parts() {
-        UnsaidCalls x = Due.townOf("wt2d9l4;20");
-        for (int n = 0; n <= 6; n++) {
-            due("LISTS of nothing: parts(" + n + ")", x.parts(n), 1);
-        }
-        x.list(0, 7);
-        x.breath(0, 3);
-        x.list(2, 4);
-        x.list(5, 1);
-        int[] parts = {1, 4, 4, 5, 5, 5, 6};
-        for (int n = 0; n <= 6; n++) {
-            due("parts(" + n + ")", x.parts(n), parts[n]);
-        }
-        x.hear(0, 5);
-        due("HEARD parts nothing", x.parts(6), 6);
-        due("parts(7)", x.parts(7), OUTSIDE);
-        due("parts(-1)", x.parts(-1), OUTSIDE);
-        UnsaidCalls six = Due.townOf("wd5d5d5d5d5d5");
+        UnsaidCalls x = Due.townOf(TOWN);
+        says(13, "into how many parts CASES fall by the CALLS of HOURS 0 .. n less 1 together");
+        partsDue(x, 1, 1, 1, 1, 1, 1, 1);
+        ready(x, "list(0, 7)", "breath(0, 3)", "list(2, 4)", "list(5, 1)");
+        partsDue(x, 1, 4, 4, 5, 5, 5, 6);
+        ready(x, "hear(0, 5)", "reading(0, 0, 0)");
+        partsDue(x, 1, 4, 4, 5, 5, 5, 6);
+        says(13, "PARTS of HOURS 0 .. n less 1 (n 0 .. 6).");
+        due(x, "parts(-1)", OUTSIDE);
+        due(x, "parts(0)", 1);
+        due(x, "parts(1)", 4);
+        due(x, "parts(6)", 6);
+        due(x, "parts(7)", OUTSIDE);
+        says(13, "(two in one part, if all their CALLS are alike)");
+        UnsaidCalls two = Due.townOf("wt5t5");
+        ready(two, "list(0, 1)", "list(1, 1)", "list(2, 2)", "breath(2, 0)");
+        partsDue(two, 1, 2, 2, 2, 2, 2, 2);
+        ready(two, "breath(2, 1)");
+        partsDue(two, 1, 2, 2, 4, 4, 4, 4);
+        ready(two, "breath(0, 0)", "breath(1, 0)");
+        partsDue(two, 1, 1, 1, 2, 2, 2, 2);
+    }
+
+    private static void partsOfSixHours() {
+        says(13, "PARTS: into how many parts CASES fall by the CALLS of HOURS");
+        UnsaidCalls x = Due.townOf("wd5d5d5d5d5d5");
         for (int hour = 0; hour < 6; hour++) {
-            six.list(hour, 1 << hour);
-            due("one more DREADED one", six.parts(hour + 1), 2L << hour);
+            ready(x, "list(" + hour + ", " + (1 << 5 - hour) + ")");
         }
-        six.breath(3, 2);
-        due("one of them never named", six.parts(6), 32);
+        partsDue(x, 1, 2, 4, 8, 16, 32, 64);
+        ready(x, "breath(3, 2)");
+        partsDue(x, 1, 2, 4, 8, 8, 16, 32);
+        ready(x, "list(0, 63)", "breath(0, 18)");
+        partsDue(x, 1, 64, 64, 64, 64, 64, 64);
+        ready(x, "breath(0, 17)");
+        due(x, "parts(1)", 63);
+    }
+
+    private static void bestDue(UnsaidCalls x, int hour, int set, int parts) {
+        due(x, "best(" + hour + ", 0)", set);
+        due(x, "best(" + hour + ", 1)", parts);
     }
 
     private static void best() {
-        UnsaidCalls x = Due.townOf("wt2d9l4;20");
-        due("best(0, 0)", x.best(0, 0), 7);
-        due("best(0, 1)", x.best(0, 1), 6);
-        x.breath(0, 3);
-        due("best(0, 0) by BREATH 3", x.best(0, 0), 7);
-        due("best(0, 1) by BREATH 3", x.best(0, 1), 4);
-        x.list(0, 7);
-        due("best(1, 0)", x.best(1, 0), 5);
-        due("best(1, 1)", x.best(1, 1), 6);
-        x.breath(1, 0);
-        due("best(1, 0) without breath: the least set", x.best(1, 0), 0);
-        due("best(1, 1) without breath", x.best(1, 1), 4);
-        x.list(1, 7);
-        due("its own LIST counts for nothing", x.best(1, 0), 0);
-        due("best(2, 0)", x.best(2, 0), 5);
-        due("nothing was changed", x.list(1, 0), 7);
-        due("best(6, 0)", x.best(6, 0), UNKNOWN);
-        due("best(-1, 0)", x.best(-1, 0), UNKNOWN);
-        due("best(0, 2)", x.best(0, 2), OUTSIDE);
-        due("best(0, -1)", x.best(0, -1), OUTSIDE);
+        UnsaidCalls x = Due.townOf(TOWN);
+        says(14, "BEST LIST for an HOUR: the set (what 0), PARTS then (1).");
+        bestDue(x, 0, 7, 6);
+        bestDue(x, 5, 7, 6);
+        says(14, "BEST LIST for an HOUR: that LIST with its BREATH by which PARTS");
+        ready(x, "breath(0, 3)");
+        bestDue(x, 0, 7, 4);
+        ready(x, "breath(0, 2)");
+        bestDue(x, 0, 5, 3);
+        ready(x, "breath(0, 0)");
+        bestDue(x, 0, 0, 1);
+        UnsaidCalls six = Due.townOf("wd5d5d5d5d5d5");
+        bestDue(six, 0, 63, 42);
+        ready(six, "breath(0, 18)");
+        bestDue(six, 0, 63, 64);
     }
 
-    private static void bestOfAll() {
-        UnsaidCalls x = Due.townOf("wd5d5d5d5d5d5");
-        due("all of them: BREATH 9 names three", x.best(0, 1), 42);
-        x.breath(0, 18);
-        due("best(0, 0)", x.best(0, 0), 63);
-        due("best(0, 1)", x.best(0, 1), 64);
-        UnsaidCalls alike = Due.townOf("wt5t5t5;01;10");
-        due("one of two that are alike: the least set", alike.best(0, 0), 5);
-        due("its PARTS", alike.best(0, 1), 4);
+    private static void bestBehindOthers() {
+        UnsaidCalls x = Due.townOf(TOWN);
+        says(14, "of all HOURS up to it (LISTS ahead as they are) are the most");
+        ready(x, "list(0, 7)", "breath(0, 3)");
+        bestDue(x, 1, 5, 6);
+        ready(x, "breath(1, 0)");
+        bestDue(x, 1, 0, 4);
+        bestDue(x, 2, 5, 6);
+        ready(x, "list(1, 7)", "list(2, 2)", "list(5, 7)");
+        bestDue(x, 1, 0, 4);
+        bestDue(x, 0, 7, 4);
+        bestDue(x, 2, 5, 6);
+        due("the LIST stays", x.list(2, 2), 2);
+        due("PARTS stay", x.parts(2), 4);
+        ready(x, "list(0, 0)");
+        bestDue(x, 1, 0, 1);
     }
 
-    /** WEIGHTS 48, 12, 432, 108, 8, 72 (680 in all). */
+    private static void leastOfSeveral() {
+        says(14, "of several the least set.");
+        bestDue(Due.townOf("wt5t5t5;01;10"), 0, 5, 4);
+        bestDue(Due.townOf("wt5t5;01;10"), 0, 1, 2);
+        UnsaidCalls x = Due.townOf("wt5t5t5");
+        ready(x, "list(0, 2)");
+        bestDue(x, 1, 5, 8);
+        ready(x, "list(0, 7)");
+        bestDue(x, 1, 0, 8);
+    }
+
+    private static void wordsDue(UnsaidCalls x, int hour, long upper, long lower) {
+        due(x, "words(" + hour + ", 0)", upper);
+        due(x, "words(" + hour + ", 1)", lower);
+    }
+
     private static void words() {
-        UnsaidCalls x = Due.townOf("wt2d9l4;20");
-        due("no words, upper", x.words(0, 0), 0);
-        due("no words, lower", x.words(0, 1), 1);
-        x.list(0, 7);
-        x.breath(0, 3);
-        due("words(0, 0)", x.words(0, 0), 429);
-        due("words(0, 1)", x.words(0, 1), 170);
-        x.hear(0, 0);
-        due("all CASES, not those THOUGHT", x.words(0, 0), 429);
-        UnsaidCalls sure = Due.townOf("wl9d9");
-        sure.list(1, 3);
-        due("2/10 + 3/10", sure.words(1, 0), 1);
-        due("in least terms", sure.words(1, 1), 2);
-        due("words(6, 0)", x.words(6, 0), LOST);
-        due("words(-1, 0)", x.words(-1, 0), LOST);
-        due("words(0, 2)", x.words(0, 2), LOST);
-        due("words(0, -1)", x.words(0, -1), LOST);
+        UnsaidCalls x = Due.townOf(TOWN);
+        says(15, "WORDS (which 0 the upper, 1 the lower number).");
+        wordsDue(x, 0, 0, 1);
+        ready(x, "list(0, 7)", "breath(0, 3)");
+        wordsDue(x, 0, 429, 170);
+        wordsDue(x, 5, 0, 1);
+        says(15, "WORDS: how many words the CALL of an HOUR has in the mean (by WEIGHTS of all CASES), as a share.");
+        ready(x, "hear(0, 0)");
+        wordsDue(x, 0, 429, 170);
+        ready(x, "hear(0, 6)");
+        due(x, "thought()", 0);
+        wordsDue(x, 0, 429, 170);
+        ready(x, "breath(0, 0)");
+        wordsDue(x, 0, 0, 1);
+        UnsaidCalls two = Due.townOf("wl9d9");
+        ready(two, "list(1, 3)");
+        wordsDue(two, 1, 1, 2);
+        UnsaidCalls six = Due.townOf("wd1d1d1d1d1d1");
+        ready(six, "list(0, 63)", "breath(0, 18)");
+        wordsDue(six, 0, 81, 5);
     }
 }

@@ -1,232 +1,340 @@
+import java.util.Arrays;
+
 /** Promises 23 to 32: SHEETS and their FAULTS, TELLING and FEARING with their TRACE, kinds. */
-public final class SheetsTest {
-    private static final int UNKNOWN = -1, OUTSIDE = -2;
-    private static final long LOST = Long.MIN_VALUE;
-
+public final class SheetsTest extends Sentences {
     public static void main(String[] args) {
-        sheet();
+        new SheetsTest().run();
+    }
+
+    @Override
+    void all() {
+        sheets();
+        lengths();
         lose();
-        putAndCell();
+        lanes();
+        cells();
         copy();
-        copyWithinItself();
-        tellAndFear();
+        copyToItself();
+        tell();
+        fear();
         traceWraps();
+        longestUse();
         as();
-        faultsAreOfTheLatest();
-        Due.end();
+        latestFault();
+        faultsOfOthers();
     }
 
-    private static void due(String call, long got, long want) {
-        Due.due(call, got, want);
-    }
-
-    /** Brings about a FAULT 1, so that a FAULT of 0 is seen to come from the next call. */
-    private static void stumble(UnsaidCalls x) {
-        x.lose(3);
-        due("a fault ahead", x.put(3, 0, 0), -11);
-    }
-
-    private static void sheet() {
-        UnsaidCalls x = new UnsaidCalls();
-        int[][] calls = {
-            // k, lane, n, answer, fault
-            {-1, 9, -1, UNKNOWN, 0}, {4, 0, 0, UNKNOWN, 0}, {0, -1, -1, OUTSIDE, 0}, {0, 3, 5, OUTSIDE, 0},
-            {0, 0, 61, OUTSIDE, 0}, {0, 0, -1, -14, 4}, {0, 2, Integer.MIN_VALUE, -14, 4}, {0, 0, 60, 1, 0},
-            {2, 2, 0, 1, 0}};
-        for (int[] c : calls) {
-            String call = "sheet(" + c[0] + ", " + c[1] + ", " + c[2] + ")";
-            stumble(x);
-            due(call, x.sheet(c[0], c[1], c[2]), c[3]);
-            due("fault of " + call, x.fault(), c[4]);
+    private static void cellsDue(UnsaidCalls x, int k, int lane, int... numbers) {
+        for (int i = 0; i < numbers.length; i++) {
+            due(x, "cell(" + k + ", " + i + ", " + lane + ")", numbers[i]);
         }
-        due("the last cell", x.put(0, 59, 7), 1);
-        due("no cell 60", x.put(0, 60, 7), -13);
-        due("a refused row changes nothing", x.sheet(0, 0, -5), -14);
-        due("still 7", x.cell(0, 59, 0), 7);
-        due("a new row", x.sheet(0, 1, 60), 1);
-        due("its cells are 0", x.cell(0, 59, 1), 0);
-        due("a row of no cells", x.put(2, 0, 1), -13);
+        due(x, "cell(" + k + ", " + numbers.length + ", " + lane + ")", LOST);
+        due(x, "fault()", 3);
+    }
+
+    private static void sheets() {
+        UnsaidCalls x = new UnsaidCalls();
+        says(23, "SHEETS 0 .. 3 have nothing (at first)");
+        due(x, "put(-1, 0, 0)", UNKNOWN);
+        for (int k = 0; k < 4; k++) {
+            due(x, "put(" + k + ", 0, 0)", NULL);
+        }
+        due(x, "put(4, 0, 0)", UNKNOWN);
+        says(23, "A SHEET gets a new row: 1.");
+        due(x, "sheet(0, 0, 3)", 1);
+        ready(x, "put(0, 0, 5)", "put(0, 2, 7)");
+        cellsDue(x, 0, 0, 5, 0, 7);
+        due(x, "sheet(0, 0, 3)", 1);
+        cellsDue(x, 0, 0, 0, 0, 0);
+        due(x, "sheet(0, 2, 2)", 1);
+        cellsDue(x, 0, 2, 0, 0);
+        due(x, "cell(0, 0, 0)", LOST);
+        due(x, "sheet(3, 1, 1)", 1);
+        cellsDue(x, 3, 1, 0);
+        cellsDue(x, 0, 2, 0, 0);
+    }
+
+    private static void lengths() {
+        says(23, ", or a row of 0 .. 60 numbers (0 at first)");
+        for (int lane = 0; lane < 3; lane++) {
+            UnsaidCalls x = new UnsaidCalls();
+            String row = "sheet(2, " + lane + ", ";
+            due(x, row + "-1)", SIZE);
+            due(x, "lose(2)", 0);
+            due(x, row + "0)", 1);
+            cellsDue(x, 2, lane);
+            due(x, "put(2, 0, 1)", INDEX);
+            due(x, "put(2, -1, 1)", INDEX);
+            due(x, "lose(2)", 1);
+            due(x, row + "1)", 1);
+            cellsDue(x, 2, lane, 0);
+            due(x, row + "60)", 1);
+            cellsDue(x, 2, lane, new int[60]);
+            due(x, "put(2, 59, 9)", 1);
+            due(x, "put(2, 60, 9)", INDEX);
+            due(x, row + "61)", OUTSIDE);
+            due(x, "cell(2, 59, " + lane + ")", 9);
+            due(x, row + "60)", 1);
+            due(x, "cell(2, 59, " + lane + ")", 0);
+        }
+        says(23, " of a LANE: 0 bytes, 1 shorts, 2 ints");
+        UnsaidCalls x = new UnsaidCalls();
+        due(x, "sheet(0, -1, 1)", OUTSIDE);
+        for (int lane = 0; lane < 3; lane++) {
+            due(x, "sheet(" + lane + ", " + lane + ", 1)", 1);
+        }
+        due(x, "sheet(0, 3, 1)", OUTSIDE);
     }
 
     private static void lose() {
         UnsaidCalls x = new UnsaidCalls();
-        x.sheet(1, 2, 3);
-        due("lose(1)", x.lose(1), 1);
-        due("lose(1) again", x.lose(1), 0);
-        due("lose(-1)", x.lose(-1), UNKNOWN);
-        due("lose(4)", x.lose(4), UNKNOWN);
-        due("it has nothing", x.put(1, 0, 0), -11);
-        due("lose names no FAULTS", x.lose(4), UNKNOWN);
-        due("so the FAULT stays", x.fault(), 1);
+        says(24, "A SHEET has nothing: 1; 0: it had nothing.");
+        ready(x, "sheet(1, 2, 3)", "put(1, 0, 4)", "sheet(2, 0, 0)");
+        due(x, "lose(1)", 1);
+        due(x, "lose(1)", 0);
+        due(x, "put(1, 0, 0)", NULL);
+        due(x, "cell(1, 0, 2)", LOST);
+        due(x, "fault()", 1);
+        due(x, "lose(2)", 1);
+        due(x, "lose(2)", 0);
+        due(x, "lose(0)", 0);
+        ready(x, "sheet(1, 2, 3)");
+        cellsDue(x, 1, 2, 0, 0, 0);
     }
 
-    private static void putAndCell() {
+    private static void lanes() {
+        int[] numbers = {0, 1, -1, 127, 128, -128, -129, 255, 256, 300, 32767, 32768, -32768, -32769, 65535, 65536, 70001,
+            Integer.MAX_VALUE, Integer.MIN_VALUE};
         UnsaidCalls x = new UnsaidCalls();
-        int[] values = {0, 1, -1, 127, 128, 255, 256, 300, 32767, 32768, 65535, 70001, Integer.MAX_VALUE, Integer.MIN_VALUE};
+        says(25, "; what comes to a cell of it is cut to its LANE (with its sign).");
         for (int lane = 0; lane < 3; lane++) {
-            x.sheet(lane, lane, 2);
-            for (int v : values) {
-                long cut = lane == 0 ? (byte) v : lane == 1 ? (short) v : v;
-                due("put", x.put(lane, 1, v), 1);
-                due("cell of LANE " + lane, x.cell(lane, 1, lane), cut);
-                due("the cell beside it", x.cell(lane, 0, lane), 0);
+            x.sheet(lane, lane, 3);
+            for (int v : numbers) {
+                int cut = lane == 0 ? (byte) v : lane == 1 ? (short) v : v;
+                due("put of " + v, x.put(lane, 1, v), 1);
+                due("LANE " + lane + " of " + v, x.cell(lane, 1, lane), cut);
             }
+            due(x, "cell(" + lane + ", 0, " + lane + ")", 0);
+            due(x, "cell(" + lane + ", 2, " + lane + ")", 0);
         }
-        x.lose(3);
-        long[][] cells = {
-            // k, i, lane, answer, fault
-            {-1, 0, 9, LOST, 0}, {4, 0, 0, LOST, 0}, {0, 9, 3, LOST, 0}, {0, 0, -1, LOST, 0}, {0, 9, 1, LOST, 2},
-            {1, 0, 2, LOST, 2}, {3, 9, 0, LOST, 1}, {3, 0, 2, LOST, 1}, {0, 2, 0, LOST, 3}, {0, -1, 0, LOST, 3},
-            {0, Integer.MIN_VALUE, 0, LOST, 3}, {2, 0, 2, 0, 0}};
-        for (long[] c : cells) {
-            String call = "cell(" + c[0] + ", " + c[1] + ", " + c[2] + ")";
-            stumble(x);
-            due(call, x.cell((int) c[0], (int) c[1], (int) c[2]), c[3]);
-            due("fault of " + call, x.fault(), c[4]);
-        }
-        int[][] puts = {
-            // k, i, answer, fault
-            {-1, 0, UNKNOWN, 0}, {4, 99, UNKNOWN, 0}, {3, -1, -11, 1}, {0, 2, -13, 3}, {0, -1, -13, 3}, {0, 1, 1, 0}};
-        for (int[] c : puts) {
-            String call = "put(" + c[0] + ", " + c[1] + ", 5)";
-            stumble(x);
-            due(call, x.put(c[0], c[1], 5), c[2]);
-            due("fault of " + call, x.fault(), c[3]);
-        }
+        ready(x, "put(0, 0, 300)", "put(0, 2, 128)", "put(1, 0, 70001)", "put(1, 2, 32768)");
+        due(x, "cell(0, 0, 0)", 44);
+        due(x, "cell(0, 2, 0)", -128);
+        due(x, "cell(1, 0, 1)", 4465);
+        due(x, "cell(1, 2, 1)", -32768);
     }
 
+    private static void cells() {
+        UnsaidCalls x = new UnsaidCalls();
+        ready(x, "sheet(0, 1, 3)", "sheet(3, 1, 3)");
+        says(25, "Cell i of a SHEET becomes v: 1.");
+        due(x, "put(0, 0, 4)", 1);
+        due(x, "put(0, 2, -6)", 1);
+        cellsDue(x, 0, 1, 4, 0, -6);
+        cellsDue(x, 3, 1, 0, 0, 0);
+        due(x, "put(0, 2, 0)", 1);
+        cellsDue(x, 0, 1, 4, 0, 0);
+        says(26, "Cell i of what a SHEET has, taken as a row of a LANE.");
+        ready(x, "put(3, 1, 9)");
+        due(x, "cell(3, 1, 1)", 9);
+        due(x, "cell(3, 1, 0)", LOST);
+        due(x, "fault()", 2);
+        due(x, "cell(3, 1, 2)", LOST);
+        due(x, "fault()", 2);
+        due(x, "cell(3, 1, 1)", 9);
+        due(x, "fault()", 0);
+    }
+
+    /** SHEETS 0 and 1 are shorts, with 11, 22, 33, 44, 55 and with 0, 0, 0. */
     private static void copy() {
         UnsaidCalls x = new UnsaidCalls();
-        x.sheet(0, 1, 5);
-        x.sheet(1, 1, 3);
-        x.sheet(2, 2, 5);
+        ready(x, "sheet(0, 1, 5)", "sheet(1, 1, 3)");
         for (int i = 0; i < 5; i++) {
             x.put(0, i, 11 * (i + 1));
         }
-        int[][] calls = {
-            // k, i, other, j, n, answer, fault
-            {-1, 0, 0, 0, 0, UNKNOWN, 0}, {4, 0, 0, 0, 0, UNKNOWN, 0}, {3, 0, 4, 0, 0, UNKNOWN, 0},
-            {0, 0, -1, 0, 0, UNKNOWN, 0}, {3, 0, 0, 0, -1, -11, 1}, {0, 0, 3, 0, -1, -11, 1}, {3, 0, 3, 0, 0, -11, 1},
-            {0, 0, 2, 0, -1, -12, 2}, {2, 9, 1, 0, 0, -12, 2}, {0, -1, 1, 0, 0, -13, 3}, {0, 0, 1, -1, 0, -13, 3},
-            {0, 0, 1, 0, -1, -13, 3}, {0, 6, 1, 0, 0, -13, 3}, {0, 0, 1, 4, 0, -13, 3}, {0, 3, 1, 0, 3, -13, 3},
-            {0, 0, 1, 1, 3, -13, 3}, {0, 1, 1, 1, Integer.MAX_VALUE, -13, 3},
-            {0, Integer.MAX_VALUE, 1, 0, 1, -13, 3}, {0, 5, 1, 3, 0, 0, 0}, {0, 1, 1, 0, 3, 3, 0}};
-        for (int[] c : calls) {
-            String call = "copy(" + c[0] + ", " + c[1] + ", " + c[2] + ", " + c[3] + ", " + c[4] + ")";
-            stumble(x);
-            due(call, x.copy(c[0], c[1], c[2], c[3], c[4]), c[5]);
-            due("fault of " + call, x.fault(), c[6]);
+        says(27, "n cells of a SHEET from i on go to another one (perhaps the same) from j on");
+        due(x, "copy(0, 2, 1, 0, 3)", 3);
+        cellsDue(x, 1, 1, 33, 44, 55);
+        due(x, "copy(0, 0, 1, 2, 1)", 1);
+        cellsDue(x, 1, 1, 33, 44, 11);
+        due(x, "copy(1, 1, 0, 4, 1)", 1);
+        cellsDue(x, 0, 1, 11, 22, 33, 44, 44);
+        due(x, "copy(0, 0, 1, 0, 0)", 0);
+        due(x, "copy(0, 5, 1, 3, 0)", 0);
+        cellsDue(x, 1, 1, 33, 44, 11);
+        for (int lane = 0; lane < 3; lane++) {
+            UnsaidCalls full = new UnsaidCalls();
+            ready(full, "sheet(2, " + lane + ", 60)", "sheet(3, " + lane + ", 60)", "put(2, 0, -5)", "put(2, 59, 6)");
+            due(full, "copy(2, 0, 3, 0, 60)", 60);
+            due(full, "cell(3, 0, " + lane + ")", -5);
+            due(full, "cell(3, 59, " + lane + ")", 6);
+            due(full, "cell(2, 59, " + lane + ")", 6);
         }
-        for (int i = 0; i < 3; i++) {
-            due("copied cell " + i, x.cell(1, i, 1), 11 * (i + 2));
-        }
-        due("the first SHEET is as it was", x.cell(0, 1, 1), 22);
-        due("one cell more", x.copy(0, 0, 1, 2, 1), 1);
-        due("it came to its place", x.cell(1, 2, 1), 11);
     }
 
-    private static void copyWithinItself() {
-        int[][] moves = {{0, 2, 3}, {2, 0, 3}, {1, 1, 4}, {0, 1, 4}, {1, 0, 4}};
+    private static void copyToItself() {
+        says(27, ", as they were: n.");
+        int[][] moves = {{0, 2, 3}, {2, 0, 3}, {1, 1, 4}, {0, 1, 4}, {1, 0, 4}, {0, 4, 1}, {0, 0, 5}, {5, 0, 0}, {0, 5, 0}};
         for (int[] m : moves) {
             UnsaidCalls x = new UnsaidCalls();
-            x.sheet(2, 0, 5);
+            ready(x, "sheet(2, 0, 5)");
             int[] row = {1, 2, 3, 4, 5};
             for (int i = 0; i < 5; i++) {
                 x.put(2, i, row[i]);
             }
-            System.arraycopy(row, m[0], row, m[1], m[2]);
-            due("copy within", x.copy(2, m[0], 2, m[1], m[2]), m[2]);
-            for (int i = 0; i < 5; i++) {
-                due("cell " + i, x.cell(2, i, 0), row[i]);
+            int[] moved = row.clone();
+            for (int p = 0; p < m[2]; p++) {
+                moved[m[1] + p] = row[m[0] + p];
             }
+            due(x, "copy(2, " + m[0] + ", 2, " + m[1] + ", " + m[2] + ")", m[2]);
+            cellsDue(x, 2, 0, moved);
         }
     }
 
-    private static void tellAndFear() {
+    /** What TRACE becomes by bodies. */
+    private static int traceBy(int ahead, int... bodies) {
+        return Arrays.stream(bodies).reduce(ahead, (trace, body) -> 31 * trace + body);
+    }
+
+    private static void tell() {
         UnsaidCalls x = Due.townOf("wd2t3l5");
-        due("a THING", x.tell(1), 3);
-        due("its body", x.trace(), 1);
-        due("a LONG", x.tell(2), 105);
-        int trace = 31 * (31 * 1 + 2) + 1;
-        due("its bodies", x.trace(), trace);
-        due("a DREADED", x.tell(0), 104);
-        trace = 31 * (31 * (31 * (31 * trace + 3) + 2) + 1) + 1;
-        due("its bodies", x.trace(), trace);
-        due("a THING is FEARED", x.fear(1), 1);
-        trace = 31 * trace + 4;
-        due("by a lent body", x.trace(), trace);
-        due("a LONG is FEARED", x.fear(2), 2);
-        trace = 31 * trace + 4;
-        due("by a lent body", x.trace(), trace);
-        due("a DREADED is FEARED", x.fear(0), 30);
-        trace = 31 * trace + 5;
-        due("by its own", x.trace(), trace);
-        due("tell(3)", x.tell(3), UNKNOWN);
-        due("tell(-1)", x.tell(-1), UNKNOWN);
-        due("fear(3)", x.fear(3), UNKNOWN);
-        due("fear(-1)", x.fear(-1), UNKNOWN);
-        due("TRACE is as it was", x.trace(), trace);
-        due("without a TOWN", new UnsaidCalls().tell(0), UNKNOWN);
-        due("without a TOWN", new UnsaidCalls().fear(0), UNKNOWN);
+        says(28, "THING (1): its digit.");
+        due(x, "tell(1)", 3);
+        due(x, "trace()", 1);
+        says(28, "LONG (2): what THING's gives, and 100.");
+        due(x, "tell(2)", 105);
+        int trace = traceBy(1, 2, 1);
+        due(x, "trace()", trace);
+        says(28, "DREADED (3): what LONG's gives, and what THING's gives (LONG's left out).");
+        due(x, "tell(0)", 104);
+        trace = traceBy(trace, 3, 2, 1, 1);
+        due(x, "trace()", trace);
+        says(28, "TELLING of a THING.");
+        int[][] greatest = {{0, 9}, {1, 109}, {2, 118}};
+        UnsaidCalls nine = Due.townOf("wt9l9d9");
+        UnsaidCalls one = Due.townOf("wt1l1d1");
+        for (int[] t : greatest) {
+            due(nine, "tell(" + t[0] + ")", t[1]);
+            due(one, "tell(" + t[0] + ")", t[0] == 2 ? 102 : t[1] - 8);
+        }
+        says(31, "TELLING of THINGS by bodies that leave their number in TRACE");
+        due(x, "tell(3)", UNKNOWN);
+        due(x, "tell(-1)", UNKNOWN);
+        due(x, "as(0, 2)", 1);
+        due(x, "ofThing(0, 1)", 2);
+        due(x, "trace()", trace);
+    }
+
+    private static void fear() {
+        UnsaidCalls x = Due.townOf("wt2l3d5t4l4d4");
+        says(29, "FEARED by a lent body (4): the THING's number;");
+        due(x, "fear(0)", 0);
+        due(x, "trace()", 4);
+        due(x, "fear(1)", 1);
+        due(x, "trace()", traceBy(0, 4, 4));
+        due(x, "fear(3)", 3);
+        due(x, "fear(4)", 4);
+        int trace = traceBy(0, 4, 4, 4, 4);
+        due(x, "trace()", trace);
+        says(29, " DREADED ones have their own (5): 30.");
+        due(x, "fear(2)", 30);
+        due(x, "fear(5)", 30);
+        due(x, "trace()", traceBy(trace, 5, 5));
+        says(29, "How it is FEARED.");
+        due(x, "fear(6)", UNKNOWN);
+        due(x, "fear(-1)", UNKNOWN);
+        due(x, "trace()", traceBy(trace, 5, 5));
+        due(Due.townOf("wd1t1"), "fear(0)", 30);
     }
 
     private static void traceWraps() {
-        UnsaidCalls x = Due.townOf("wt2t3");
+        says(31, "(an int that wraps, 0 at first, becomes 31 times it and the number) as they begin:");
+        UnsaidCalls x = new UnsaidCalls();
+        due(x, "trace()", 0);
+        Due.takeText(x, "wt2d3");
+        due(x, "trace()", 0);
         int trace = 0;
-        for (int k = 0; k < 20; k++) {
-            x.tell(0);
-            trace = 31 * trace + 1;
-            due("trace", x.trace(), trace);
+        boolean wrapped = false;
+        for (int k = 0; k < 60; k++) {
+            x.tell(k % 2);
+            trace = k % 2 == 0 ? traceBy(trace, 1) : traceBy(trace, 3, 2, 1, 1);
+            due("TRACE behind " + (k + 1) + " TELLINGS", x.trace(), trace);
+            wrapped |= trace < 0;
         }
-        x.tell(5);
-        x.cell(0, 0, 0);
-        due("TRACE stays", x.trace(), trace);
+        due("it wraps", wrapped ? 1 : 0, 1);
+        says(31, "TRACE.");
+        for (int k = 0; k < 3; k++) {
+            due(x, "trace()", trace);
+        }
+        due("a TEXT that is taken leaves it", Due.takeText(x, "wt1t1"), 2);
+        due(x, "trace()", trace);
+    }
+
+    private static void longestUse() {
+        says(31, "An object is used for at most 512 calls after it has been made");
+        UnsaidCalls x = new UnsaidCalls();
+        int calls = 2 + 5;
+        due("the TEXT, by " + calls + " calls", Due.takeText(x, "wt5d5"), 2);
+        int trace = 0;
+        for (; calls < 510; calls++) {
+            x.tell(1);
+            trace = traceBy(trace, 3, 2, 1, 1);
+        }
+        due(x, "tell(1)", 110);
+        due(x, "trace()", traceBy(trace, 3, 2, 1, 1));
     }
 
     private static void as() {
         UnsaidCalls x = Due.townOf("wt2l3d5");
+        says(30, "A THING, taken as one of a kind: 1.");
         for (int t = 0; t < 3; t++) {
-            for (int kind = 0; kind < 3; kind++) {
-                stumble(x);
-                due("as(" + t + ", " + kind + ")", x.as(t, kind), kind <= t ? 1 : -12);
-                due("its fault", x.fault(), kind <= t ? 0 : 2);
+            for (int kind = 0; kind <= t; kind++) {
+                dueWithFault(x, "as(" + t + ", " + kind + ")", 1, 0);
             }
-            stumble(x);
-            due("as(.., 3)", x.as(t, 3), OUTSIDE);
-            due("its fault", x.fault(), 0);
-            due("as(.., -1)", x.as(t, -1), OUTSIDE);
         }
-        stumble(x);
-        due("as(3, 9)", x.as(3, 9), UNKNOWN);
-        due("its fault", x.fault(), 0);
-        due("as(-1, 0)", x.as(-1, 0), UNKNOWN);
     }
 
-    private static void faultsAreOfTheLatest() {
-        UnsaidCalls x = Due.townOf("wt2l3d5");
-        due("a CAST", x.as(0, 2), -12);
-        x.many(9);
-        x.ofThing(9, 9);
-        x.list(9, 9);
-        x.breath(0, 99);
-        x.called(99, 0);
-        x.hear(0, 99);
-        x.sure(9);
-        x.chance(9, 9);
-        x.parts(9);
-        x.best(9, 9);
-        x.words(9, 9);
-        x.secret(0, 99, 0, 0);
-        x.shortest(9, 9);
-        x.two(99, 0, 0);
-        x.reading(0, 0, 99);
-        x.back(9);
-        x.rules(9, 9);
-        x.lose(9);
-        x.tell(9);
-        x.fear(9);
-        x.trace();
-        due("calls that name none change nothing", x.fault(), 2);
-        due("asking changes nothing", x.fault(), 2);
+    private static void latestFault() {
+        UnsaidCalls x = new UnsaidCalls();
+        says(32, "(0 ahead of any)");
+        due(x, "fault()", 0);
+        ready(x, "tell(0)", "lose(9)", "list(9, 9)");
+        due(x, "fault()", 0);
+        says(32, "The FAULT of the latest call that names one");
+        due(x, "put(0, 0, 0)", NULL);
+        due(x, "fault()", 1);
+        due(x, "fault()", 1);
+        due(x, "sheet(0, 0, -1)", SIZE);
+        due(x, "fault()", 4);
+        due(x, "sheet(0, 0, 1)", 1);
+        due(x, "put(0, 1, 0)", INDEX);
+        due(x, "fault()", 3);
+        due(x, "cell(0, 1, 1)", LOST);
+        due(x, "fault()", 2);
+        says(32, ": 0: it came to none, or was refused");
+        due(x, "put(0, 0, 0)", 1);
+        due(x, "fault()", 0);
+        String[] refused = {"town(4, 0, 0, 0)", "night(0, 3, 0, 0)", "night(0, 0, 0, 1)", "sheet(0, 0, 61)", "put(4, 0, 0)",
+            "cell(0, 0, 3)", "copy(0, 0, 4, 0, 0)", "as(0, 2)", "town(0, 0, 0, 1)"};
+        long[] answers = {UNKNOWN, OUTSIDE, STATE, OUTSIDE, UNKNOWN, LOST, UNKNOWN, UNKNOWN, -100};
+        for (int k = 0; k < refused.length; k++) {
+            dueWithFault(x, refused[k], answers[k], 0);
+        }
+    }
+
+    private static void faultsOfOthers() {
+        says(32, "The FAULT of the latest call that names one");
+        String[] others = {"ofThing(0, 1)", "ofThing(9, 9)", "cases()", "weight(0)", "weight(99)", "list(0, 7)", "list(9, 9)",
+            "breath(0, 3)", "breath(0, 99)", "called(0, 0)", "called(99, 0)", "hear(0, 2)", "hear(0, 99)", "thought()",
+            "sure(0)", "sure(9)", "chance(0, 0)", "chance(9, 9)", "parts(6)", "parts(9)", "best(0, 0)", "best(9, 9)",
+            "words(0, 0)", "words(9, 9)", "secret(0, 1, 1, 0)", "secret(0, 99, 0, 0)", "shortest(0, 0)", "shortest(9, 9)",
+            "two(1, 2, 0)", "two(99, 0, 0)", "reading(0, 0, 0)", "reading(0, 0, 99)", "back(1)", "back(9)", "rules(0, -1)",
+            "rules(9, 9)", "lose(0)", "lose(9)", "tell(0)", "tell(9)", "fear(0)", "fear(9)", "trace()", "many(0)", "many(9)"};
+        UnsaidCalls x = Due.townOf(TOWN);
+        due(x, "as(0, 2)", CAST);
+        for (String other : others) {
+            ready(x, other);
+            due("fault() behind " + other, x.fault(), 2);
+        }
     }
 }
