@@ -216,6 +216,13 @@ public final class CallsTest extends Sentences {
         chanceDue(Due.townOf("wt5t2"), 0, 1, 2);
         chanceDue(Due.townOf("wt5t2"), 1, 1, 5);
         chanceDue(Due.townOf("wt9t9t9t9t9t9;01;10;12;21"), 0, 729, 730);
+        UnsaidCalls one = Due.townOf("wt1t1");
+        ready(one, "list(0, 3)", "hear(0, 0)");
+        due(one, "thought()", 1L << 3);
+        chanceDue(one, 0, 1, 1);
+        ready(one, "list(0, 1)");
+        due(one, "thought()", 1L << 1 | 1L << 3);
+        chanceDue(one, 1, 1, 10);
         UnsaidCalls sure = Due.townOf("wt5t2");
         ready(sure, "list(0, 1)", "hear(0, 0)");
         chanceDue(sure, 0, 1, 1);

@@ -57,6 +57,12 @@ public final class PartsTest extends Sentences {
         partsDue(x, 1, 64, 64, 64, 64, 64, 64);
         ready(x, "breath(0, 17)");
         due(x, "parts(1)", 63);
+        ready(x, "breath(0, 9)", "list(0, 1)", "list(1, 32)", "list(2, 1)", "list(3, 32)");
+        partsDue(x, 1, 2, 4, 4, 4, 8, 8);
+        for (int hour = 0; hour < 6; hour++) {
+            ready(x, "list(" + hour + ", " + (hour % 2 == 0 ? 33 : 48) + ")", "breath(" + hour + ", 18)");
+        }
+        partsDue(x, 1, 4, 8, 8, 8, 8, 8);
     }
 
     private static void bestDue(UnsaidCalls x, int hour, int set, int parts) {
@@ -80,6 +86,9 @@ public final class PartsTest extends Sentences {
         bestDue(six, 0, 63, 42);
         ready(six, "breath(0, 18)");
         bestDue(six, 0, 63, 64);
+        ready(six, "list(0, 63)");
+        bestDue(six, 1, 0, 64);
+        bestDue(six, 5, 0, 64);
     }
 
     private static void bestBehindOthers() {

@@ -48,6 +48,10 @@ public final class SecretsTest extends Sentences {
         due(alike, "secret(0, 2, 0, 0)", 0);
         due(alike, "secret(3, 2, 0, 0)", 0);
         due(alike, "secret(3, 0, 0, 0)", NONE);
+        UnsaidCalls six = Due.townOf("wt5t5t5t5t5t5");
+        due(six, "secret(0, 32, 5, 5)", 0);
+        due(six, "secret(63, 31, 5, 5)", NONE);
+        due(six, "secret(63, 63, 0, 5)", 0);
     }
 
     /** By BREATH 2 a DREADED one cannot be named: if it is not so, all of its LIST stays unsaid. */
@@ -114,6 +118,10 @@ public final class SecretsTest extends Sentences {
         due(last, "shortest(5, 0)", 16);
         due(last, "shortest(4, 0)", 16);
         due(last, "shortest(3, 0)", 8);
+        UnsaidCalls six = Due.townOf("wt5t5t5t5t5t5");
+        for (int t = 0; t < 6; t++) {
+            due(six, "shortest(" + t + ", 5)", 1 << t);
+        }
     }
 
     private static void shortestByBreath() {
@@ -132,6 +140,9 @@ public final class SecretsTest extends Sentences {
         UnsaidCalls alike = Due.townOf("wt5t5d5;02;20");
         ready(alike, "breath(0, 2)");
         due(alike, "shortest(2, 0)", 1);
+        UnsaidCalls follows = Due.townOf("wt5t5;01");
+        due(follows, "shortest(0, 0)", 1);
+        due(follows, "shortest(1, 0)", 2);
         UnsaidCalls half = Due.townOf("wt5d5");
         ready(half, "breath(0, 2)");
         due(half, "shortest(1, 0)", NONE);
@@ -151,6 +162,8 @@ public final class SecretsTest extends Sentences {
         due(six, "two(63, 63, 5)", 64);
         due(six, "two(56, 7, 5)", 64);
         due(six, "two(56, 3, 5)", 32);
+        due(six, "two(1, 32, 5)", 4);
+        due(six, "two(32, 1, 5)", 4);
     }
 
     private static void twoByBreath() {

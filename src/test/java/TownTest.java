@@ -14,6 +14,7 @@ public final class TownTest extends Sentences {
         codes();
         kinds();
         allAnew();
+        fewerThings();
         cases();
         weights();
         lists();
@@ -259,11 +260,14 @@ public final class TownTest extends Sentences {
         due(x, "many(2)", 6);
         due(x, "many(3)", 8);
         due(x, "breath(5, 5)", 5);
+        due(x, "ofThing(1, 0)", 2);
+        due(x, "weight(0)", 125);
         due("a TEXT that is taken", Due.takeText(x, "wl1t1"), 2);
         due(x, "many(0)", 2);
         due(x, "cases()", 15);
         due(x, "weight(0)", 81);
         due(x, "ofThing(0, 0)", 1);
+        due(x, "ofThing(1, 0)", 0);
         due(x, "ofThing(2, 0)", UNKNOWN);
         says(31, ", but for SHEETS and TRACE");
         due(x, "trace()", 1);
@@ -281,6 +285,31 @@ public final class TownTest extends Sentences {
         due("more THINGS again", Due.takeText(x, "wt1t1d1l1t1t1"), 6);
         due(x, "many(1)", 64);
         due("the same TEXT once more", Due.takeText(x, "wt1t1d1l1t1t1"), 6);
+    }
+
+    private static void fewerThings() {
+        UnsaidCalls x = Due.townOf("wd9d9d9d9d9d9");
+        ready(x, "list(0, 63)", "breath(0, 18)");
+        says(2, "A TEXT that is taken makes all anew");
+        due(x, "parts(1)", 64);
+        due("fewer THINGS", Due.takeText(x, TOWN), 3);
+        due(x, "cases()", 0b10101111);
+        due(x, "thought()", 0b10101111);
+        due(x, "many(1)", 6);
+        due(x, "weight(8)", UNKNOWN);
+        due(x, "best(0, 0)", 7);
+        due(x, "best(0, 1)", 6);
+        due(x, "secret(2, 1, 2, 0)", 0);
+        due(x, "secret(2, 1, 1, 0)", NONE);
+        due(x, "shortest(2, 0)", 4);
+        due(x, "two(7, 0, 0)", 6);
+        due(x, "rules(0, -1)", 8);
+        due(x, "list(0, 7)", 0);
+        due(x, "breath(0, 3)", 9);
+        due(x, "called(0, 0)", 2);
+        due(x, "called(2, 0)", 5);
+        due(x, "words(0, 0)", 429);
+        due(x, "words(0, 1)", 170);
     }
 
     private static void cases() {
